@@ -10,6 +10,7 @@ public final class OutlookTest {
         nextRun();
         meanBits();
         undo();
+        undoBeyondFour();
         undoRestoresAll();
         Expect.finish();
     }
@@ -100,6 +101,17 @@ public final class OutlookTest {
         due("the next one is present", x.row(0, 0), 1);
         due("from now on", x.row(0, 1), 12);
         due("then the last one", x.row(1, 1), 18);
+        LeadRaces y = new LeadRaces();
+        y.come(7, 3, -1);
+        y.come(0, 0, 0);
+        due("lane 0 after lane 7", y.row(1, 0), 0);
+        due("when level", y.row(1, 1), 3);
+        y.come(3, -9, 9);
+        due("who comes stands in it", y.row(1, 0), 3);
+        y.go(3);
+        due("who went does not", y.row(1, 0), 0);
+        due("nor does its moment", y.row(1, 1), 3);
+        due("nor behind", y.row(2, 0), Expect.NOT_FOUND);
     }
 
     /** Lane k leads from the moment k * k on or so: all eight stand in the row. */
@@ -140,6 +152,7 @@ public final class OutlookTest {
         due("without runners", x.nextRun(), Expect.NOT_FOUND);
         x.come(0, 100, 0);
         due("one alone", x.nextRun(), Expect.NOT_FOUND);
+        due("no next one", x.row(1, 0), Expect.NOT_FOUND);
         x.come(4, 0, 0);
         x.come(5, -3, 1);
         due("not of the leader", x.nextRun(), 4);
@@ -201,6 +214,30 @@ public final class OutlookTest {
         due("an error is no change", x.go(0), Expect.NOT_POSSIBLE);
         due("one still", x.count(4), 1);
         due("undo is no change", x.undo(), 0);
+    }
+
+    /** What is dropped, and what is only tried, leaves the states that are kept alone. */
+    private static void undoBeyondFour() {
+        LeadRaces x = new LeadRaces();
+        for (int i = 1; i <= 9; i++) {
+            x.pause(i);
+            x.pause(0);
+            x.go(0);
+            x.fault(0);
+        }
+        Expect.typeIn(x, "come 0 0 0;wait 9;wait 0;");
+        due("tried alone", x.fault(0), 18);
+        due("tried again", x.play(), Expect.NOT_POSSIBLE);
+        due("time", x.count(1), 45);
+        for (int i = 9; i >= 6; i--) {
+            x.undo();
+            due("time before pause(" + i + ")", x.count(1), i * (i - 1) / 2);
+            due("tried there", x.fault(1), 2);
+        }
+        x.pause(500);
+        due("another way from there", x.count(1), 515);
+        x.undo();
+        due("and back", x.count(1), 15);
     }
 
     private static void undoRestoresAll() {

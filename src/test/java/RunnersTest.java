@@ -90,6 +90,12 @@ public final class RunnersTest {
         due("go twice", x.go(3), Expect.NOT_POSSIBLE);
         due("comes again", x.come(3, -4, 1), 3);
         due("at the new place", x.runnerOf(3, 0), -4);
+        for (int lane = 7; lane >= 0; lane--) {
+            x.come(lane, 0, 0);
+        }
+        for (int lane = 0; lane < 8; lane++) {
+            due("go(" + lane + ")", x.go(lane), 7 - lane);
+        }
     }
 
     private static void speed() {
@@ -128,6 +134,13 @@ public final class RunnersTest {
         due("place", x.runnerOf(1, 0), 10);
         due("of no way", x.jump(6, 0), 1);
         due("by 1", x.jump(6, 1), 6);
+        for (int lane = 0; lane < 8; lane++) {
+            LeadRaces y = new LeadRaces();
+            y.come(lane, 0, 0);
+            y.come((lane + 3) % 8, 1, 0);
+            due("jump(" + lane + ", 2)", y.jump(lane, 2), lane);
+            due("speed(" + lane + ", 1)", y.speed(lane, 1), 0);
+        }
     }
 
     private static LeadRaces farRunner(int sign) {

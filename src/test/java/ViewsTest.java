@@ -40,6 +40,9 @@ public final class ViewsTest {
         due("out of range first", x.runnerOf(0, 5), Expect.INVALID);
         x.go(4);
         due("rank without the one who went", x.runnerOf(7, 2), 0);
+        x.come(0, 10, 0);
+        due("rank behind lane 0", x.runnerOf(7, 2), 1);
+        due("rank behind both", x.runnerOf(2, 2), 2);
         due("it is not there", x.runnerOf(4, 0), Expect.NOT_FOUND);
     }
 
