@@ -42,7 +42,7 @@ public final class ModelTest {
         speeds = kind == 0 ? 1 : kind == 1 ? 4 : 99;
         moments = kind == 0 ? 3 : kind == 1 ? 12 : kind == 2 ? 40 : 500;
         looksFar = kind < 3;
-        while (calls < 430) {
+        while (calls < 400) {
             step();
         }
         lookAtAll();
