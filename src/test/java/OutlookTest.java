@@ -188,8 +188,11 @@ public final class OutlookTest {
         y.jump(0, 1);
         due("0", y.meanBits(), 0);
         for (int place = -300; place < 100; place++) {
-            y.jump(1, place - y.runnerOf(1, 0));
-            due("mean of " + place, y.meanBits(), Float.floatToIntBits((float) place / 3f));
+            LeadRaces z = new LeadRaces();
+            z.come(0, 0, 0);
+            z.come(1, place, 0);
+            z.come(2, 0, 0);
+            due("mean of " + place, z.meanBits(), Float.floatToIntBits((float) place / 3f));
         }
     }
 

@@ -3,7 +3,9 @@ public final class RefusedTest {
     private static final int MIN = Integer.MIN_VALUE;
     private static final int MAX = Integer.MAX_VALUE;
     private static final int[] NO_LANES = {MIN, -2, -1, 8, 9, MAX};
-    private static final String FULL_TEXT = "go 0;go 1;come 0 -9999 -99;come 1 +1 01;speed 1 5;jump 1 -1;";
+    /** 60 characters each; the first one has no fault on the object of withText. */
+    private static final String FULL_TEXT = "jump 0 0001;jump 1 -0002;speed 0 0003;speed 1 -004;wait 500;";
+    private static final String FULL_WITH_FAULT = "go 0;go 1;come 0 -9999 -99;come 1 +1 01;speed 1 5;jump 1 -1;";
 
     public static void main(String[] args) {
         comeOutOfRange();
@@ -170,15 +172,19 @@ public final class RefusedTest {
         for (int character : characters) {
             Same.leaves("60 characters: type(" + character + ")", () -> Setups.withText(FULL_TEXT),
                     x -> x.type(character), Expect.LIMIT);
+            Same.leaves("60 with a fault: type(" + character + ")", () -> Setups.withText(FULL_WITH_FAULT),
+                    x -> x.type(character), Expect.LIMIT);
             Same.leaves("60 blanks: type(" + character + ")", () -> Setups.withText(" ".repeat(60)),
                     x -> x.type(character), Expect.LIMIT);
         }
         Expect.due("the text is full", Setups.withText(FULL_TEXT).count(5), 60);
+        Expect.due("the text is full", Setups.withText(FULL_WITH_FAULT).count(5), 60);
+        Expect.due("the first one is possible", Setups.withText(FULL_TEXT).play(), 5);
     }
 
     private static void playRefused() {
         String[] texts = {" ", ";", "wait 1", "wait 1;wait 0;", "go 0;go 0;", "come 2 0 0;come 2 0 0;",
-            "wait 500;go 1;go 1;wait 1;", "speed 0 100;", "wait 9;jump 0 1000;", FULL_TEXT};
+            "wait 500;go 1;go 1;wait 1;", "speed 0 100;", "wait 9;jump 0 1000;", FULL_WITH_FAULT};
         for (String text : texts) {
             Same.leaves("play '" + text + "'", () -> Setups.withText(text), LeadRaces::play, Expect.NOT_POSSIBLE);
         }

@@ -58,8 +58,9 @@ final class Setups {
     /** The runner in the lane 3 is at the place given, 8 moments before the time limit; speed 0. */
     static LeadRaces far(int place) {
         LeadRaces x = new LeadRaces();
+        boolean isNear = Math.abs(place) <= 9999;
         int sign = place < 0 ? -1 : 1;
-        x.come(3, sign * 9999, sign * 99);
+        x.come(3, isNear ? place : sign * 9999, isNear ? 0 : sign * 99);
         for (int i = 0; i < 17; i++) {
             x.pause(500);
         }
