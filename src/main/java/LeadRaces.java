@@ -126,7 +126,7 @@ public final class LeadRaces {
         if (index >= LEADERS_KEPT || index >= track.putDown) {
             return NOT_FOUND;
         }
-        int slot = (track.putDown - 1 - index) % LEADERS_KEPT;
+        int slot = Track.slotOf(track.putDown - 1 - index);
         return what == 0 ? track.keptLanes[slot] : track.keptMoments[slot];
     }
 
@@ -656,14 +656,20 @@ public final class LeadRaces {
 
         /** Puts the leader down if it is another one than before, and tells whether it is. */
         private boolean putDownLeader() {
-            int before = putDown == 0 ? NONE : keptLanes[(putDown - 1) % LEADERS_KEPT];
+            int before = putDown == 0 ? NONE : keptLanes[slotOf(putDown - 1)];
             if (leading() == before) {
                 return false;
             }
-            keptLanes[putDown % LEADERS_KEPT] = leading();
-            keptMoments[putDown % LEADERS_KEPT] = time;
+            int slot = slotOf(putDown);
+            keptLanes[slot] = leading();
+            keptMoments[slot] = time;
             putDown++;
             return true;
+        }
+
+        /** Where the leader that was put down as the given one, from 0, is kept. */
+        static int slotOf(int number) {
+            return Math.floorMod(number, LEADERS_KEPT);
         }
     }
 
